@@ -19,6 +19,9 @@ public final class PastryBench {
 
     private static final int MAX_INPUT = 500;
     private static final int BYTES_PER_APPEND = 20;
+    private static final int LOWEST_MELTING = 5;
+    private static final int HIGHEST_MELTING = 35;
+    private static final int MAX_LOADED_FLOUR = 50;
     private static final int MAX_LOADED_LAYERS = 9;
     private static final int MAX_COMMANDS = 20;
     private static final int NUMBER_CEILING = 1000000;
@@ -34,16 +37,13 @@ public final class PastryBench {
     private static final int BYTES_PER_LAYER = 6;
     private static final int LARGEST_SCALE = 1000;
 
-    private static final String FIRST_BENCH =
-            "bench 22 18 5;sheet 10 dough 60 butter 40 dough 60;sheet 20 dough 30 butter 9 dough 25 butter 3 dough 30;";
-
     private static final Command[] COMMANDS = Command.values();
 
     private final int[] input = new int[MAX_INPUT];
     private int inputLength;
     private final Parser parser = new Parser();
     private final Script script = new Script();
-    private final Bench bench = new Bench();
+    private final Bench bench = Bench.first();
     private final Bench draft = new Bench();
     private final Bench snapshot = new Bench();
     private boolean snapshotSaved;
@@ -51,11 +51,6 @@ public final class PastryBench {
     private final Output output = new Output();
 
     public PastryBench() {
-        int length = FIRST_BENCH.length();
-        for (int i = 0; i < length && i < MAX_INPUT; i++) {
-            input[i] = FIRST_BENCH.charAt(i);
-        }
-        parser.readBench(input, length, bench);
     }
 
     // ---- text input
@@ -473,15 +468,15 @@ public final class PastryBench {
 
     /** The commands of a script, with the ranges that its grammar gives their numbers. */
     private enum Command {
-        FOLD("fold", 0, 5, 2, 4),
-        ROLL("roll", 0, 5, 2, 4),
-        DUST("dust", 0, 5),
-        SEAL("seal", 0, 5),
-        COOL("cool", 0, 5),
-        TAKE_OUT("takeout", 0, 5),
-        WAIT("wait", 1, 24),
-        CUT("cut", 0, 5),
-        STACK("stack", 0, 5, 0, 5);
+        FOLD("fold", 0, MAX_SHEETS - 1, LOWEST_FACTOR, HIGHEST_FACTOR),
+        ROLL("roll", 0, MAX_SHEETS - 1, LOWEST_FACTOR, HIGHEST_FACTOR),
+        DUST("dust", 0, MAX_SHEETS - 1),
+        SEAL("seal", 0, MAX_SHEETS - 1),
+        COOL("cool", 0, MAX_SHEETS - 1),
+        TAKE_OUT("takeout", 0, MAX_SHEETS - 1),
+        WAIT("wait", 1, MAX_HOURS_AT_ONCE),
+        CUT("cut", 0, MAX_SHEETS - 1),
+        STACK("stack", 0, MAX_SHEETS - 1, 0, MAX_SHEETS - 1);
 
         final String word;
         final int firstLow;
@@ -538,14 +533,21 @@ public final class PastryBench {
 
         void copyFrom(Sheet other) {
             layers = other.layers;
-            System.arraycopy(other.thick, 0, thick, 0, layers);
-            System.arraycopy(other.butter, 0, butter, 0, layers);
+            for (int i = 0; i < layers; i++) {
+                thick[i] = other.thick[i];
+                butter[i] = other.butter[i];
+            }
             expected = other.expected;
             folds = other.folds;
             warmth = other.warmth;
             dusted = other.dusted;
             sealed = other.sealed;
             cooling = other.cooling;
+        }
+
+        void load(boolean ofButter, int thickness) {
+            putLayer(ofButter, thickness, true);
+            expected++;
         }
 
         /** Tells whether the new layer was joined with the top one. */
@@ -821,14 +823,44 @@ public final class PastryBench {
             }
         }
 
-        void begin() {
+        static Bench first() {
+            Bench bench = new Bench();
+            bench.begin(22, 18, 5);
+            bench.addSheet(10);
+            bench.addLayer(false, 60);
+            bench.addLayer(true, 40);
+            bench.addLayer(false, 60);
+            bench.addSheet(20);
+            bench.addLayer(false, 30);
+            bench.addLayer(true, 9);
+            bench.addLayer(false, 25);
+            bench.addLayer(true, 3);
+            bench.addLayer(false, 30);
+            return bench;
+        }
+
+        void begin(int roomTemperature, int meltingPoint, int flour) {
             count = 0;
-            room = 0;
-            melting = 0;
-            portions = 0;
+            room = roomTemperature;
+            melting = meltingPoint;
+            portions = flour;
             hours = 0;
             escaped = 0;
             broken = 0;
+        }
+
+        void addSheet(int temperature) {
+            if (count < MAX_SHEETS) {
+                sheets[count].begin(temperature);
+                count++;
+            }
+        }
+
+        /** Loads a layer onto the latest sheet. */
+        void addLayer(boolean ofButter, int thickness) {
+            if (count > 0) {
+                sheets[count - 1].load(ofButter, thickness);
+            }
         }
 
         void copyFrom(Bench other) {
@@ -842,17 +874,6 @@ public final class PastryBench {
             hours = other.hours;
             escaped = other.escaped;
             broken = other.broken;
-        }
-
-        /** Answers null if there is no place for one more. */
-        Sheet addSheet(int temperature) {
-            if (count >= MAX_SHEETS) {
-                return null;
-            }
-            Sheet added = sheets[count];
-            added.begin(temperature);
-            count++;
-            return added;
         }
 
         boolean hasSheet(int index) {
@@ -1018,9 +1039,9 @@ public final class PastryBench {
         int applyCut(int sheet) {
             Sheet old = sheets[sheet];
             old.sealed = false;
-            Sheet added = addSheet(old.warmth);
-            if (added != null) {
-                added.copyFrom(old);
+            if (count < MAX_SHEETS) {
+                sheets[count].copyFrom(old);
+                count++;
             }
             return count - 1;
         }
@@ -1246,7 +1267,6 @@ public final class PastryBench {
 
         boolean readBench(int[] text, int length, Bench target) {
             begin(text, length);
-            target.begin();
             if (!readHeader(target)) {
                 return false;
             }
@@ -1265,15 +1285,15 @@ public final class PastryBench {
             if (!takeWord("bench") || !takeNumber(0, MAX_TEMPERATURE)) {
                 return false;
             }
-            target.room = number;
-            if (!takeNumber(5, 35)) {
+            int room = number;
+            if (!takeNumber(LOWEST_MELTING, HIGHEST_MELTING)) {
                 return false;
             }
-            target.melting = number;
-            if (!takeNumber(0, MAX_PORTIONS)) {
+            int melting = number;
+            if (!takeNumber(0, MAX_LOADED_FLOUR)) {
                 return false;
             }
-            target.portions = number;
+            target.begin(room, melting, number);
             return takeSemicolon();
         }
 
@@ -1281,16 +1301,15 @@ public final class PastryBench {
             if (!takeWord("sheet") || !takeNumber(0, MAX_TEMPERATURE)) {
                 return false;
             }
-            Sheet sheet = target.addSheet(number);
-            if (sheet == null || !readLayer(sheet)) {
+            target.addSheet(number);
+            if (!readLayer(target)) {
                 return false;
             }
             for (int i = 1; i < MAX_LOADED_LAYERS && tokens.kind != TokenKind.SEMICOLON; i++) {
-                if (!readLayer(sheet)) {
+                if (!readLayer(target)) {
                     return false;
                 }
             }
-            sheet.expected = sheet.layers;
             if (isLayerWord()) {
                 return fail(TOO_MANY);
             }
@@ -1301,7 +1320,7 @@ public final class PastryBench {
             return tokens.isWord("dough") || tokens.isWord("butter");
         }
 
-        boolean readLayer(Sheet sheet) {
+        boolean readLayer(Bench target) {
             if (!isLayerWord()) {
                 return fail(NOT_ALLOWED);
             }
@@ -1310,7 +1329,7 @@ public final class PastryBench {
             if (!takeNumber(1, MAX_NEW_THICKNESS)) {
                 return false;
             }
-            sheet.putLayer(ofButter, number, true);
+            target.addLayer(ofButter, number);
             return true;
         }
 
