@@ -165,6 +165,10 @@ public final class ChangesTest {
         bench.takeOut(1);
         bench.cool(0);
         Check.same("the cooling ones count too", bench.seal(1), 3);
+        PastryBench gone = Check.benchOf("bench 1 9 2;sheet 12 butter 4;sheet 12 butter 2;");
+        gone.seal(1);
+        gone.stack(0, 1);
+        Check.same("a sheet that was does not count", gone.seal(0), 1);
     }
 
     private static void cooling() {
@@ -180,6 +184,12 @@ public final class ChangesTest {
         Check.badState(bench, "no place and in it", () -> bench.cool(0));
         bench.takeOut(3);
         Check.same("a place again", bench.cool(2), 3);
+        PastryBench gone = Check.benchOf("bench 1 9 2;sheet 12 dough 4;");
+        gone.saveSnapshot();
+        gone.cut(0);
+        gone.cool(1);
+        gone.restoreSnapshot();
+        Check.same("a sheet that was takes no place", gone.cool(0), 1);
     }
 
     private static void takingOut() {
@@ -211,6 +221,9 @@ public final class ChangesTest {
         bench.passHours(2);
         Check.same("out of it", bench.temperature(4), 5);
         Check.same("no sheets", Check.benchOf("bench 20 19 2;").passHours(24), 0);
+        PastryBench gone = Check.benchOf("bench 30 19 2;sheet 30 dough 4;sheet 30 dough 4;");
+        gone.stack(0, 1);
+        Check.same("a sheet that was does not count", gone.passHours(1), 1);
     }
 
     private static void hoursRefused() {
@@ -289,6 +302,8 @@ public final class ChangesTest {
         folded.fold(0, 2);
         Check.same("the greater number of folds is below", folded.stack(1, 0), 8);
         told(folded, 0, "B5 D12 B10 D12 B5 D4 B4 D4 / 37  folds 2 expected 8");
+        folded.stack(1, 0);
+        told(folded, 0, "D7 B5 D12 B10 D12 B5 D4 B4 D4 / 37  folds 2 expected 9");
         indexesAfterStacking();
     }
 
@@ -312,6 +327,14 @@ public final class ChangesTest {
             bench.undo();
         }
         Check.same("all undone", rows(bench), "D1 | B2 | D3 | B4");
+        bench.cut(3);
+        bench.cut(0);
+        Check.same("six sheets", rows(bench), "D1 | B2 | D3 | B4 | B4 | D1");
+        bench.stack(5, 4);
+        Check.same("two of six", rows(bench), "D1 | B2 | D3 | B4 | D1 B4");
+        bench.cut(4);
+        bench.stack(0, 5);
+        Check.same("the last of six goes", rows(bench), "D2 B4 | B2 | D3 | B4 | D1 B4");
     }
 
     private static String rows(PastryBench bench) {
@@ -379,6 +402,33 @@ public final class ChangesTest {
         Check.badState(joined, "201 layers on flour", () -> joined.stack(0, 1));
         PastryBench other = of159And42("dough");
         Check.badState(other, "201 layers of other kinds", () -> other.stack(0, 1));
+        joined.undo();
+        joined.stack(0, 1);
+        joined.cut(0);
+        Check.badState(joined, "399 layers when joined", () -> joined.stack(0, 1));
+        PastryBench many = of159And42("butter");
+        many.addButter(1, 1);
+        Check.badState(many, "201 layers when joined", () -> many.stack(0, 1));
+        one200();
+    }
+
+    /** A single layer is put on 200, and 200 on a single one: only the layers when joined count. */
+    private static void one200() {
+        PastryBench bench = Check.benchOf("bench 1 9 50;sheet 1 butter 1;sheet 1 butter 2;sheet 1 dough 3;");
+        bench.dust(0);
+        for (int i = 0; i < 24; i++) {
+            bench.addButter(0, 1);
+        }
+        bench.fold(0, 2);
+        bench.dust(0);
+        Check.same("200 layers", bench.fold(0, 4), 200);
+        Check.badState(bench, "dough on 200 layers", () -> bench.stack(0, 2));
+        Check.badState(bench, "dough under 200 layers", () -> bench.stack(2, 0));
+        Check.same("butter on 200 layers", bench.stack(0, 1), 200);
+        Check.same("joined at the top", bench.thickness(0, 199), 3);
+        bench.undo();
+        Check.same("butter under 200 layers", bench.stack(1, 0), 200);
+        Check.same("joined at the bottom", bench.thickness(0, 0), 3);
     }
 
     private static void addingButter() {

@@ -109,6 +109,8 @@ public final class ForecastTest {
         Check.same("in the refrigerator", bench.foldsPossible(0, 2), 0);
         PastryBench full = of200();
         Check.same("not once", full.foldsPossible(0, 2), 0);
+        Check.same("up to 200 layers", onFlour(50).foldsPossible(0, 4), 1);
+        Check.same("not up to 204 layers", onFlour(51).foldsPossible(0, 4), 0);
     }
 
     private static void butterAtRisk() {

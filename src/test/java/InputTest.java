@@ -11,6 +11,7 @@ public final class InputTest {
         loading();
         loadingWrongLengths();
         loadingReplaces();
+        loadingAgain();
         failedLoadKeeps();
         tokens();
         ends();
@@ -106,6 +107,17 @@ public final class InputTest {
         Check.badState(bench, "the history is cleared", bench::undo);
     }
 
+    private static void loadingAgain() {
+        PastryBench bench = new PastryBench();
+        Check.same("six sheets", Check.load(bench, SIX), 6);
+        Check.same("fewer sheets, more layers", Check.load(bench, "bench 1 5 0;sheet 7 dough 1 butter 2;sheet 8 butter 3;"), 2);
+        Check.same("after a text that fails late", Check.load(bench, "bench 3 6 9;sheet 1 butter 9 butter 9 butter 9;x"), -1);
+        Check.same("two sheets still", bench.sheetCount(), 2);
+        Check.same("nothing of the texts before is left", Check.load(bench, "bench 2 5 0;sheet 4 dough 6;"), 1);
+        Check.same("the third bench", Check.toldBench(bench), "[D6 / 4  folds 0 expected 1] 2 5 0 0 0 0");
+        Check.same("as many sheets as fit", Check.load(bench, SIX), 6);
+    }
+
     private static void failedLoadKeeps() {
         PastryBench bench = new PastryBench();
         bench.dust(0);
@@ -133,6 +145,11 @@ public final class InputTest {
         Check.same("leading zeros", Check.toldBench(Check.benchOf("bench 00000000000000000000040 018 005;")), "40 18 5 0 0 0");
         fails("benches 1 5 0;", 1, 0);
         fails("benc 1 5 0;", 1, 0);
+        fails("cench 1 5 0;", 1, 0);
+        fails("benchz 1 5 0;", 1, 0);
+        fails("bencha 1 5 0;", 1, 0);
+        fails("bench 1 5 0;sheet 1 nough 1;", 1, 20);
+        fails("bench 1 5 0;sheet 1 cutter 1;", 1, 20);
         fails("Bench 1 5 0;", 1, 0);
         fails("bencH 1 5 0;", 1, 0);
         fails("bench\t1 5 0;", 1, 5);

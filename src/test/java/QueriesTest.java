@@ -77,6 +77,7 @@ public final class QueriesTest {
         Check.same("height", bench.height(0), 420);
         Check.same("butterHeight", bench.butterHeight(0), 12);
         Check.same("butterHeight of butter", bench.butterHeight(1), 1);
+        Check.same("butterLayerCount of butter", bench.butterLayerCount(1), 1);
         Check.same("no butter", Check.benchOf("bench 20 10 5;sheet 15 dough 8;").butterHeight(0), 0);
         int[] wrongLayers = {-1, 4, 200, Integer.MAX_VALUE, Integer.MIN_VALUE};
         for (int layer : wrongLayers) {
@@ -87,6 +88,27 @@ public final class QueriesTest {
         bench.fold(0, 2);
         bench.undo();
         Check.noSheet(bench, "a layer that was", () -> bench.isButter(0, 4));
+        layersThatWere();
+    }
+
+    /** What a higher sheet leaves in the rows must not be seen when the sheet is lower again. */
+    private static void layersThatWere() {
+        PastryBench bench = Check.benchOf("bench 20 10 5;sheet 15 butter 3 dough 8;");
+        bench.dust(0);
+        bench.fold(0, 4);
+        bench.undo();
+        Check.same("butterLayerCount", bench.butterLayerCount(0), 1);
+        Check.same("butterHeight", bench.butterHeight(0), 3);
+        Check.same("height", bench.height(0), 11);
+        Check.same("seamCount", bench.seamCount(0), 0);
+        Check.same("thinnestLayer", bench.thinnestLayer(0), 0);
+        Check.same("thickestLayer", bench.thickestLayer(0), 1);
+        PastryBench risky = Check.benchOf("bench 20 10 5;sheet 15 dough 8;");
+        risky.addButter(0, 1);
+        risky.undo();
+        Check.same("butterAtRisk", risky.butterAtRisk(0), 0);
+        Check.same("layersAtRisk", risky.layersAtRisk(0, 4), 0);
+        Check.same("heightAfterRoll", risky.heightAfterRoll(0, 4), 2);
     }
 
     private static void extremes() {
@@ -98,12 +120,17 @@ public final class QueriesTest {
         PastryBench rising = Check.benchOf("bench 20 10 5;sheet 15 dough 3 butter 2 dough 1;sheet 15 dough 1 butter 2 dough 3;");
         Check.same("the last is thinnest", rising.thinnestLayer(0), 2);
         Check.same("the last is thickest", rising.thickestLayer(1), 2);
+        PastryBench middle = Check.benchOf("bench 20 10 5;sheet 1 dough 3 butter 9 dough 1;sheet 1 dough 3 butter 1 dough 4;");
+        Check.same("the second is thickest", middle.thickestLayer(0), 1);
+        Check.same("the second is thinnest", middle.thinnestLayer(1), 1);
     }
 
     private static void seams() {
         PastryBench bench = Check.benchOf("bench 1 9 5;sheet 1 dough 1 dough 2 butter 1 butter 1 butter 1 dough 3;sheet 1 dough 1;sheet 1 dough 1 butter 2 dough 3;");
         Check.same("seams", bench.seamCount(0), 3);
         Check.same("one layer", bench.seamCount(1), 0);
+        Check.same("one seam at the bottom", Check.benchOf("bench 1 9 5;sheet 1 dough 1 dough 2 butter 3;").seamCount(0), 1);
+        Check.same("one seam at the top", Check.benchOf("bench 1 9 5;sheet 1 dough 1 butter 2 butter 3;").seamCount(0), 1);
         Check.same("changing kinds", bench.seamCount(2), 0);
         bench.dust(2);
         bench.fold(2, 4);

@@ -154,7 +154,22 @@ public final class ScriptTest {
         fails("stack 6 0;", 2, 6);
         fails("stack 0 6;", 2, 8);
         Check.same("the ranges' ends", Check.script(new PastryBench(), "wait 1;wait 24;fold 0 2;fold 0 3;roll 0 4;seal 5;"), 5);
+        rangeEnds();
         Check.same("equal sheets are no parse error", Check.script(new PastryBench(), "stack 0 0;"), 0);
+    }
+
+    private static void rangeEnds() {
+        String six = "bench 9 9 9;sheet 1 dough 1;sheet 1 dough 1;sheet 1 dough 1;sheet 1 dough 1;sheet 1 dough 1;sheet 1 dough 1;";
+        String[] lowest = {"fold 0 2", "roll 0 2", "dust 0", "seal 0", "cool 0", "wait 1", "stack 0 1", "stack 1 0"};
+        String[] highest = {"fold 5 4", "roll 5 4", "dust 5", "seal 5", "cool 5", "wait 24", "stack 5 4", "stack 4 5"};
+        for (int i = 0; i < lowest.length; i++) {
+            Check.same(lowest[i], Check.script(Check.benchOf(six), lowest[i] + ";"), 1);
+            Check.same(highest[i], Check.script(Check.benchOf(six), highest[i] + ";"), 1);
+        }
+        Check.same("take out the first", Check.script(Check.benchOf(six), "cool 0;takeout 0;"), 2);
+        Check.same("take out the last", Check.script(Check.benchOf(six), "cool 5;takeout 5;"), 2);
+        Check.same("cut the first and the last", Check.script(Check.benchOf(six), "stack 0 1;cut 0;stack 0 1;cut 4;"), 4);
+        Check.same("cut 5 can be read", Check.script(Check.benchOf(six), "cut 5;"), 0);
     }
 
     private static void failedScriptKeeps() {
@@ -177,6 +192,10 @@ public final class ScriptTest {
         Check.same("210 hours", bench.hoursPassed(), 210);
         fails(twenty + "wait 1;", 3, twenty.length());
         fails(twenty + " stack", 3, twenty.length() + 1);
+        String[] commands = {"fold", "roll", "dust", "seal", "cool", "takeout", "wait", "cut", "stack"};
+        for (String command : commands) {
+            fails(twenty + command, 3, twenty.length());
+        }
         fails(twenty + " takeout 9;", 3, twenty.length() + 1);
         fails(twenty + "waits", 1, twenty.length());
         fails(twenty + "1", 1, twenty.length());
