@@ -6,15 +6,21 @@ import java.util.function.IntSupplier;
 final class Check {
     private static int checks = 0;
     private static int wrong = 0;
+    private static String subject = "";
 
     private Check() {
+    }
+
+    /** Tells what the checks that follow are about; it stands ahead of every wrong answer. */
+    static void about(String what) {
+        subject = what.isEmpty() ? "" : what + " | ";
     }
 
     static void same(String what, Object got, Object want) {
         checks++;
         if (!got.equals(want)) {
             wrong++;
-            System.out.println(what + ": answered " + got + ", due is " + want);
+            System.out.println(subject + what + ": answered " + got + ", due is " + want);
         }
     }
 
@@ -40,6 +46,10 @@ final class Check {
 
     static void badState(PastryBench bench, String what, Runnable call) {
         refuses(bench, what, IllegalStateException.class, call);
+    }
+
+    static void accepts(String what, Runnable call) {
+        same(what, thrownBy(call), "nothing");
     }
 
     private static String thrownBy(Runnable call) {
